@@ -360,6 +360,14 @@ public final class OddsFractions {
       return (at(1) << LIMB_BITS) | at(0);
     }
 
+    /** The lowest limb of what is left without the lowest bits. */
+    long bitsFrom(int dropped) {
+      if (dropped < 0) return 0;
+      int whole = dropped / LIMB_BITS;
+      int left = dropped % LIMB_BITS;
+      return ((at(whole) >>> left) | (at(whole + 1) << (LIMB_BITS - left))) & LIMB_MASK;
+    }
+
     boolean isZero() {
       return size == 0;
     }
@@ -427,6 +435,29 @@ public final class OddsFractions {
           carry = part >>> LIMB_BITS;
         }
         store(i + y.size, carry);
+      }
+      trim();
+    }
+
+    void multiplyByInt(int factor) {
+      widen(size + 1);
+      long carry = 0;
+      for (int i = 0; i < size; i++) {
+        long part = at(i) * factor + carry;
+        store(i, part & LIMB_MASK);
+        carry = part >>> LIMB_BITS;
+      }
+      trim();
+    }
+
+    /** Towards 0, by an int above 0. */
+    void divideByInt(int divisor) {
+      if (divisor <= 0) return;
+      long rest = 0;
+      for (int i = size - 1; i >= 0; i--) {
+        long part = (rest << LIMB_BITS) | at(i);
+        store(i, part / divisor);
+        rest = part % divisor;
       }
       trim();
     }
@@ -644,6 +675,8 @@ public final class OddsFractions {
     /** Far above the steps that Euclid takes for sixteen limbs. */
     private static final int MOST_STEPS = 1000000;
     private static final int POWER_BITS = 9;
+    /** So few that factors of so many bits, times a limb, stay inside a long with its sign. */
+    private static final int LEADING_BITS = 31;
     private static final int MOST_TWOS = 256;
 
     private final Fraction answer = new Fraction(Natural.ROOM, Natural.ROOM);
@@ -738,10 +771,8 @@ public final class OddsFractions {
       if (answer.sign == 0) return;
       int taken = Math.min(k, n - k);
       for (int i = 1; i <= taken; i++) {
-        right.becomeLong(n - taken + i);
-        left.becomeProduct(answer.above, right);
-        right.becomeLong(i);
-        divideInto(left, right, answer.above);
+        answer.above.multiplyByInt(n - taken + i);
+        answer.above.divideByInt(i);
       }
     }
 
@@ -781,17 +812,66 @@ public final class OddsFractions {
 
     /** The greatest number that divides both comes to be shared; of 0 and another that one. */
     private void findCommon(Natural x, Natural y) {
-      shared.become(x);
-      divided.become(y);
+      boolean isInOrder = x.compareWith(y) >= 0;
+      shared.become(isInOrder ? x : y);
+      divided.become(isInOrder ? y : x);
       for (int i = 0; i < MOST_STEPS && !divided.isZero(); i++) {
-        if (isShort(shared) && isShort(divided)) {
+        if (isShort(shared)) {
           shared.becomeLong(commonOfLongs(shared.lowLong(), divided.lowLong()));
           return;
         }
+        if (leap()) continue;
         division.divide(shared, divided);
         shared.become(divided);
         divided.become(division.rest);
       }
+    }
+
+    /**
+     * Takes all the steps that the leading bits are sure of in one (Lehmer's way), as most steps by whole
+     * numbers would only take away a few bits; tells whether there were any.
+     */
+    private boolean leap() {
+      int dropped = shared.countBits() - LEADING_BITS;
+      long x = shared.bitsFrom(dropped);
+      long y = divided.bitsFrom(dropped);
+      long a = 1, b = 0, c = 0, d = 1;
+      for (int i = 0; i < MOST_STEPS && y + c != 0 && y + d != 0; i++) {
+        long times = (x + a) / (y + c);
+        if (times != (x + b) / (y + d)) break;
+        long nextC = a - times * c;
+        long nextD = b - times * d;
+        long nextY = x - times * y;
+        a = c;
+        b = d;
+        x = y;
+        c = nextC;
+        d = nextD;
+        y = nextY;
+      }
+      if (b == 0) return false;
+      mix(a, b, c, d);
+      return true;
+    }
+
+    /** Shared becomes a times itself and b times divided, divided the same by c and d. */
+    private void mix(long a, long b, long c, long d) {
+      long carryShared = 0;
+      long carryDivided = 0;
+      int size = shared.size;
+      divided.widen(size);
+      for (int i = 0; i < size; i++) {
+        long x = shared.at(i);
+        long y = divided.at(i);
+        carryShared += a * x + b * y;
+        carryDivided += c * x + d * y;
+        shared.store(i, carryShared & Natural.LIMB_MASK);
+        divided.store(i, carryDivided & Natural.LIMB_MASK);
+        carryShared >>= Natural.LIMB_BITS;
+        carryDivided >>= Natural.LIMB_BITS;
+      }
+      shared.trim();
+      divided.trim();
     }
 
     /** Whether a long holds it with its sign. */

@@ -401,16 +401,25 @@ public final class OddsFractionsAgainstModel {
     }
   }
 
+  private static int without(Random random, int least, int most) {
+    int[] all = {least - 1, most + 1, Integer.MIN_VALUE, Integer.MAX_VALUE};
+    return all[random.nextInt(all.length)];
+  }
+
   private static int fraction(Random random) {
-    return random.nextInt(60) == 0 ? (random.nextBoolean() ? 16 : -1) : random.nextInt(6) + (random.nextInt(12) == 0 ? 10 : 0);
+    return random.nextInt(60) == 0 ? without(random, 0, 15) : random.nextInt(6) + (random.nextInt(12) == 0 ? 10 : 0);
   }
 
   private static int row(Random random) {
-    return random.nextInt(60) == 0 ? (random.nextBoolean() ? 4 : -1) : random.nextInt(random.nextInt(4) + 1);
+    return random.nextInt(60) == 0 ? without(random, 0, 3) : random.nextInt(random.nextInt(4) + 1);
   }
 
   private static int within(Random random, int least, int most) {
-    return random.nextInt(40) == 0 ? (random.nextBoolean() ? most + 1 : least - 1) : least + random.nextInt(most - least + 1);
+    return random.nextInt(40) == 0 ? without(random, least, most) : least + random.nextInt(most - least + 1);
+  }
+
+  private static int place(Random random) {
+    return random.nextInt(40) == 0 ? without(random, 0, 10) : random.nextInt(6) - 1;
   }
 
   private static long number(Random random) {
@@ -443,7 +452,7 @@ public final class OddsFractionsAgainstModel {
       case 4: if (random.nextInt(4) == 0) run.nothing(f); else run.grown(); break;
       case 5: case 6: case 7: run.work(within(random, 0, 5), f, a, b); break;
       case 8: run.power(f, a, random.nextBoolean() ? random.nextInt(13) - 6 : within(random, -300, 300)); break;
-      case 9: run.binomial(f, within(random, 0, 250), random.nextInt(260) - 4); break;
+      case 9: run.binomial(f, within(random, 0, 250), within(random, -4, 255)); break;
       case 10: run.common(f, a, b); break;
       default: run.from(f, doubleBits(random)); break;
     }
@@ -456,7 +465,7 @@ public final class OddsFractionsAgainstModel {
       case 1: run.sign(a); break;
       case 2: run.small(a); break;
       case 3: run.limbs(a, within(random, 0, 1)); break;
-      case 4: run.limb(a, within(random, 0, 1), random.nextInt(10) - 1); break;
+      case 4: run.limb(a, within(random, 0, 1), within(random, -1, 8)); break;
       case 5: run.round(a, random.nextBoolean() ? 0 : within(random, 0, 18), within(random, 0, 3)); break;
       case 6: case 7: run.real(a, within(random, 0, 1)); break;
       default: run.exact(within(random, 0, 7), number(random), number(random)); break;
@@ -466,9 +475,9 @@ public final class OddsFractionsAgainstModel {
   private static void anyRowCall(Run run, Random random) {
     int r = row(random);
     switch (random.nextInt(9)) {
-      case 0: run.row(r, random.nextInt(5) == 0 ? random.nextInt(14) - 2 : random.nextInt(4)); break;
-      case 1: case 2: run.put(r, random.nextInt(6) - 1, fraction(random)); break;
-      case 3: run.move(r, random.nextInt(5) - 1, row(random), random.nextInt(5) - 1, random.nextInt(5) - 1); break;
+      case 0: run.row(r, random.nextInt(5) == 0 ? within(random, -2, 11) : random.nextInt(4)); break;
+      case 1: case 2: run.put(r, place(random), fraction(random)); break;
+      case 3: run.move(r, place(random), row(random), place(random), place(random)); break;
       case 4: run.filled(r); break;
       case 5: run.sum(fraction(random), r); break;
       case 6: run.one(r); break;
@@ -534,6 +543,34 @@ public final class OddsFractionsAgainstModel {
     run.grown();
   }
 
+  /** Numbers that share a wide part, and neighbours among Fibonacci's, which take Euclid the most steps. */
+  private static void sharedRun(long seed) {
+    Random random = new Random(seed);
+    Run run = new Run();
+    boolean isFibonacci = random.nextInt(4) == 0;
+    BigInteger x = isFibonacci ? BigInteger.ONE : pattern(random, 4);
+    BigInteger y = isFibonacci ? BigInteger.ONE : pattern(random, 4);
+    for (int i = random.nextInt(200); isFibonacci && i > 0; i--) {
+      BigInteger z = x.add(y);
+      x = y;
+      y = z;
+    }
+    BigInteger shared = pattern(random, 3);
+    load(run, 0, x.multiply(shared));
+    load(run, 1, y.multiply(shared));
+    run.common(2, 0, 1);
+    run.look(2);
+    run.common(2, 1, 0);
+    run.work(3, 3, 0, 1);
+    run.look(3);
+    run.work(3, 4, 1, 0);
+    run.work(2, 5, 3, 4);
+    run.work(0, 6, 3, 4);
+    run.look(6);
+    run.work(1, 7, 6, 4);
+    run.order(7, 3);
+  }
+
   /** Rows of small odds, which come to one often. */
   private static void oddsRun(long seed) {
     Random random = new Random(seed);
@@ -585,6 +622,7 @@ public final class OddsFractionsAgainstModel {
   public static void main(String[] args) {
     for (int seed = 0; seed < 4000; seed++) anyRun(seed);
     for (int seed = 0; seed < 4000; seed++) limbRun(seed);
+    for (int seed = 0; seed < 4000; seed++) sharedRun(seed);
     for (int seed = 0; seed < 2000; seed++) oddsRun(seed);
     for (int seed = 0; seed < 2000; seed++) wideRun(seed);
     if (codesSeen != 0xff) {
