@@ -367,6 +367,8 @@ public final class BoundariesOfPromises10To18 {
     exactIs("exact(#, 4294967296, -2147483649)", "2: CODE 7");
     exactIs("exact(#, 4294967296, 4294967296)", "2: CODE 7");
     exactIs("exact(#, 2147483648, 0)", "4: CODE 7", "5: CODE 5", "6: CODE 5", "7: CODE 5");
+    exactIs("exact(#, 2147483647, 0)", "4: 2147483647");
+    exactIs("exact(#, -2147483648, 0)", "4: -2147483648");
     exactIs("exact(#, -2147483649, 0)", "4: CODE 7");
     exactIs("exact(#, 4294967296, 0)", "4: CODE 7", "2: 0");
     exactIs("exact(#, MIN, 0)", "0: MIN", "1: MIN", "2: 0", "3: CODE 7", "4: CODE 7", "5: CODE 5", "6: CODE 5", "7: CODE 5");
