@@ -8,6 +8,9 @@ public final class OddsFractions {
   private static final int DONE = 0, IS_NOTHING = 1, NOT_WHOLE = 2, NO_SUCH_PLACE = 3;
   private static final int PLACES_BELOW_0 = 4, DIVIDED_BY_0 = 5, NOT_WIDE = 6, NO_LONG = 7;
 
+  /** Written out, as LANGUAGE.md lists the functions of Long, not its constants. */
+  private static final long LEAST_LONG = 1L << 63;
+
   private static final int PLUS = 0, MINUS = 1, TIMES = 2, OVER = 3, LESSER = 4, GREATER = 5;
 
   private final Fraction[] fractions;
@@ -666,7 +669,7 @@ public final class OddsFractions {
     }
 
     private static boolean isAboveUnsigned(long x, long y) {
-      return x + Long.MIN_VALUE > y + Long.MIN_VALUE;
+      return x + LEAST_LONG > y + LEAST_LONG;
     }
   }
 
@@ -945,7 +948,7 @@ public final class OddsFractions {
     boolean isRoundedLong(int sign) {
       if (division.quotient.size > 2) return false;
       long low = division.quotient.lowLong();
-      return low >= 0 || sign < 0 && low == Long.MIN_VALUE;
+      return low >= 0 || sign < 0 && low == LEAST_LONG;
     }
 
     long roundedLong(int sign) {
@@ -973,7 +976,7 @@ public final class OddsFractions {
       boolean isFurther = (a.sign < 0) == (end == 0);
       // One more goes over into the exponent by itself where the mantissa is full.
       if (isFurther && !isExact) bits++;
-      return a.sign < 0 ? bits | Long.MIN_VALUE : bits;
+      return a.sign < 0 ? bits | LEAST_LONG : bits;
     }
 
     static int exponentOf(long bits) {
@@ -999,17 +1002,17 @@ public final class OddsFractions {
         case SUM: return ((a ^ (a + b)) & (b ^ (a + b))) >= 0;
         case DIFFERENCE: return ((a ^ b) & (a ^ (a - b))) >= 0;
         case PRODUCT: return isProductLong(a, b);
-        case OPPOSITE: return a != Long.MIN_VALUE;
+        case OPPOSITE: return a != LEAST_LONG;
         case AS_INT: return a == (int) a;
         case QUOTIENT:
-        case FLOOR: return a != Long.MIN_VALUE || b != -1;
+        case FLOOR: return a != LEAST_LONG || b != -1;
         default: return true;
       }
     }
 
     /** A product by -1 is looked at apart: to divide it again would go round as it did. */
     private static boolean isProductLong(long a, long b) {
-      if (b == -1) return a != Long.MIN_VALUE;
+      if (b == -1) return a != LEAST_LONG;
       return b == 0 || a * b / b == a;
     }
 
